@@ -382,12 +382,7 @@ public final class NoseDrum {
             return 0;
         }
         curves.takeHeights(now.noses, now.noses.worn);
-        for (int s = 0; s < now.steps; s++) {
-            if (curves.shapeAt(now, one, s) > 0 && curves.shapeAt(now, other, s) > 0) {
-                return 1;
-            }
-        }
-        return 0;
+        return curves.doMeet(now, one, other) ? 1 : 0;
     }
 
     // ---- the motion's row
@@ -1298,7 +1293,7 @@ public final class NoseDrum {
             return root;
         }
 
-        /** The levers from a follower down to its root, as bits. */
+        /** The levers from a follower down to its root, as bits; each stands behind the one that it is on. */
         int leversOf(int follower) {
             int bits = 0;
             int lever = follower;
@@ -1313,18 +1308,7 @@ public final class NoseDrum {
             return on[lever] < 0 || on[lever] >= lever ? 0 : on[lever];
         }
 
-        /** A lever stands behind the one it is on, so going up by number goes from the root outward. */
-        int through(int levers, int height) {
-            int passed = height;
-            for (int f = 0; f < MOST_FOLLOWERS; f++) {
-                if ((levers >> f & 1) == 1) {
-                    passed = leverOver(f, passed);
-                }
-            }
-            return passed;
-        }
-
-        private int leverOver(int lever, int height) {
+        int leverOver(int lever, int height) {
             return second[lever] < 1 ? 0 : Math.min(height * first[lever] / second[lever], MOST_LEVER);
         }
 
@@ -1502,20 +1486,8 @@ public final class NoseDrum {
             }
         }
 
-        int shapeAt(Machine m, int nose, int step) {
-            int off = m.round(step - m.noses.at[nose]);
-            int behind = off - m.noses.wide[nose] + 1;
-            if (behind <= 0) {
-                return heights[nose];
-            }
-            int away = Math.min(behind, m.steps - off);
-            return Math.max(0, heights[nose] - m.noses.steep[nose] * away);
-        }
-
         void fillProfile(Machine m, int track) {
-            for (int s = 0; s < m.steps; s++) {
-                profile[s] = 0;
-            }
+            clearProfile(m);
             for (int i = 0; i < m.noses.count; i++) {
                 if (m.noses.track[i] == track && heights[i] > 0) {
                     raiseProfile(m, i);
@@ -1523,10 +1495,42 @@ public final class NoseDrum {
             }
         }
 
-        private void raiseProfile(Machine m, int nose) {
+        private void clearProfile(Machine m) {
             for (int s = 0; s < m.steps; s++) {
-                profile[s] = Math.max(profile[s], shapeAt(m, nose, s));
+                profile[s] = 0;
             }
+        }
+
+        /** Goes once round from the nose's first step; no calls within, as all that is asked comes through here. */
+        private void raiseProfile(Machine m, int nose) {
+            int high = heights[nose];
+            int steep = m.noses.steep[nose];
+            int last = m.noses.wide[nose] - 1;
+            int step = m.round(m.noses.at[nose]);
+            for (int off = 0; off < m.steps; off++) {
+                int behind = off - last;
+                int ahead = m.steps - off;
+                int away = behind <= 0 ? 0 : behind < ahead ? behind : ahead;
+                int shape = high - steep * away;
+                if (shape > profile[step]) {
+                    profile[step] = shape;
+                }
+                step = step + 1 < m.steps ? step + 1 : 0;
+            }
+        }
+
+        boolean doMeet(Machine m, int one, int other) {
+            clearProfile(m);
+            raiseProfile(m, one);
+            System.arraycopy(profile, 0, lift, 0, MOST_STEPS);
+            clearProfile(m);
+            raiseProfile(m, other);
+            for (int s = 0; s < m.steps; s++) {
+                if (profile[s] > 0 && lift[s] > 0) {
+                    return true;
+                }
+            }
+            return false;
         }
 
         boolean isSpare(Machine m, int nose) {
@@ -1548,9 +1552,13 @@ public final class NoseDrum {
         void spread(Machine m, int sort, int size) {
             for (int s = 0; s < m.steps; s++) {
                 int greatest = 0;
+                int step = m.round(s - size);
                 for (int d = -size; d <= size; d++) {
-                    int under = sort == ROLLER ? d * d : 0;
-                    greatest = Math.max(greatest, profile[m.round(s + d)] - under);
+                    int height = sort == ROLLER ? profile[step] - d * d : profile[step];
+                    if (height > greatest) {
+                        greatest = height;
+                    }
+                    step = step + 1 < m.steps ? step + 1 : 0;
                 }
                 lift[s] = greatest;
             }
@@ -1560,9 +1568,13 @@ public final class NoseDrum {
         void fillCut(Machine m, int sort, int size) {
             for (int s = 0; s < m.steps; s++) {
                 int least = m.row[s];
+                int step = m.round(s - size);
                 for (int d = -size; d <= size; d++) {
-                    int over = sort == ROLLER ? d * d : 0;
-                    least = Math.min(least, m.row[m.round(s + d)] + over);
+                    int height = sort == ROLLER ? m.row[step] + d * d : m.row[step];
+                    if (height < least) {
+                        least = height;
+                    }
+                    step = step + 1 < m.steps ? step + 1 : 0;
                 }
                 profile[s] = least;
             }
@@ -1583,25 +1595,28 @@ public final class NoseDrum {
             spread(m, m.followers.sort[root], m.followers.first[root]);
             settle(m, m.followers.spring[root]);
             int levers = m.followers.leversOf(follower);
-            if (levers != 0) {
-                passLevers(m, levers);
+            for (int f = root + 1; f <= follower; f++) {
+                if ((levers >> f & 1) == 1) {
+                    passLever(m, f);
+                }
             }
         }
 
         /** The first turn comes over the highest lift, so the second one is as all the later ones. */
         private void settle(Machine m, int spring) {
             int at = lift[0];
+            int s = 0;
             for (int i = 1; i < 2 * m.steps; i++) {
-                int s = m.round(i);
+                s = s + 1 < m.steps ? s + 1 : 0;
                 at = Math.max(lift[s], at - spring);
                 pos[s] = at;
             }
         }
 
-        private void passLevers(Machine m, int levers) {
+        private void passLever(Machine m, int lever) {
             for (int s = 0; s < m.steps; s++) {
-                lift[s] = m.followers.through(levers, lift[s]);
-                pos[s] = m.followers.through(levers, pos[s]);
+                lift[s] = m.followers.leverOver(lever, lift[s]);
+                pos[s] = m.followers.leverOver(lever, pos[s]);
             }
         }
 
