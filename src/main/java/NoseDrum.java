@@ -129,8 +129,7 @@ public final class NoseDrum {
         if (!now.hasTrack(track) || !now.hasStep(step)) {
             return NO_SUCH;
         }
-        curves.takeHeights(now.noses, now.noses.worn);
-        curves.fillProfile(now, track);
+        curves.fillProfileAsNow(now, track);
         return curves.profile[step];
     }
 
@@ -146,8 +145,7 @@ public final class NoseDrum {
         if (!now.hasTrack(track)) {
             return NO_SUCH;
         }
-        curves.takeHeights(now.noses, now.noses.worn);
-        curves.fillProfile(now, track);
+        curves.fillProfileAsNow(now, track);
         int greatest = 0;
         for (int s = 0; s < now.steps; s++) {
             greatest = Math.max(greatest, curves.profile[s] - curves.profile[now.round(s - 1)]);
@@ -167,8 +165,7 @@ public final class NoseDrum {
         if (!now.hasTrack(track) || n < 0 || n > MOST_HIGH) {
             return NO_SUCH;
         }
-        curves.takeHeights(now.noses, now.noses.worn);
-        curves.fillProfile(now, track);
+        curves.fillProfileAsNow(now, track);
         int covered = 0;
         for (int s = 0; s < now.steps; s++) {
             if (curves.profile[s] > n) {
@@ -925,7 +922,7 @@ public final class NoseDrum {
 
         private int behindBlanks(int from) {
             int i = from;
-            while (i < length && (byteAt(i) == ' ' || byteAt(i) == '\n')) {
+            while (i < length && (bytes[i] == ' ' || bytes[i] == '\n')) {
                 i++;
             }
             return i;
@@ -933,7 +930,7 @@ public final class NoseDrum {
 
         private int behindLetters(int from) {
             int i = from;
-            while (i < length && isLetter(byteAt(i))) {
+            while (i < length && bytes[i] >= 'a' && bytes[i] <= 'z') {
                 i++;
             }
             return i;
@@ -942,8 +939,10 @@ public final class NoseDrum {
         private int behindDigits(int from) {
             int i = from;
             value = 0;
-            while (i < length && isDigit(byteAt(i))) {
-                value = Math.min(value * 10 + byteAt(i) - '0', MOST_VALUE);
+            while (i < length && bytes[i] >= '0' && bytes[i] <= '9') {
+                if (value < MOST_VALUE) {
+                    value = value * 10 + bytes[i] - '0';
+                }
                 i++;
             }
             return i;
@@ -1486,7 +1485,12 @@ public final class NoseDrum {
             }
         }
 
-        void fillProfile(Machine m, int track) {
+        void fillProfileAsNow(Machine m, int track) {
+            takeHeights(m.noses, m.noses.worn);
+            fillProfile(m, track);
+        }
+
+        private void fillProfile(Machine m, int track) {
             clearProfile(m);
             for (int i = 0; i < m.noses.count; i++) {
                 if (m.noses.track[i] == track && heights[i] > 0) {
@@ -1506,7 +1510,7 @@ public final class NoseDrum {
             int high = heights[nose];
             int steep = m.noses.steep[nose];
             int last = m.noses.wide[nose] - 1;
-            int step = m.round(m.noses.at[nose]);
+            int step = m.hasStep(m.noses.at[nose]) ? m.noses.at[nose] : 0;
             for (int off = 0; off < m.steps; off++) {
                 int behind = off - last;
                 int ahead = m.steps - off;
