@@ -174,6 +174,15 @@ public final class MotionTest {
         Check.due("nearest is the lever", x.nearest(), 2);
         x.breaks(0, true);
         Check.due("nearest of some that are alike", x.nearest(), 0);
+        // Follower f is as the motion but for f, if it is shifted by one step.
+        NoseDrum z = Check.drumOf("drum steps 6 jam 9 slack 0; track; track; nose on 0 at 2 wide 1 high 4 steep 60; nose on 1 at 2 wide 1 high 3 steep 60;"
+            + "knife on 0 spring 60 lag 0; knife on 1 spring 60 lag 0;", 7);
+        Check.motionOf(z, "up 4; down 4;", 2);
+        Check.due("nearest by one step", z.nearest(), 0);
+        Check.due("phase of one step", z.phase(0), 1);
+        Check.motionOf(z, "hold 2; up 3; down 3;", 4);
+        Check.due("nearest by the last step of all", z.nearest(), 1);
+        Check.due("phase of the last step of all", z.phase(1), 5);
         NoseDrum y = Check.drumOf("drum steps 6 jam 9 slack 0;", 1);
         Check.due("nearest without a motion and followers", y.nearest(), -6);
         y.motion();

@@ -98,6 +98,11 @@ public final class NoseTest {
         Check.due("meet(0, 2) worn less", x.meet(0, 2), 1);
         x.breaks(0, true);
         Check.due("meet(0, 2) broken", x.meet(0, 2), 0);
+        NoseDrum y = Check.drumOf("drum steps 9 jam 9 slack 0; track; nose on 0 at 0 wide 2 high 3 steep 60; nose on 0 at 7 wide 3 high 3 steep 60;"
+            + "nose on 0 at 7 wide 2 high 9 steep 60;", 5);
+        Check.due("meet at step 0 alone", y.meet(0, 1), 1);
+        Check.due("meet at the last steps", y.meet(1, 2), 1);
+        Check.due("meet beside one another", y.meet(0, 2), 0);
         Check.due("meet(0, 0)", x.meet(0, 0), -2);
         Check.due("meet(0, 5)", x.meet(0, 5), -2);
         Check.due("meet(-1, 0)", x.meet(-1, 0), -2);

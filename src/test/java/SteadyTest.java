@@ -109,6 +109,9 @@ public final class SteadyTest {
         Check.due("same() of 29 and 23", Check.drumOf(many, 6).same(), 667);
         Check.due("same() of 29, 23, 7", Check.drumOf(many + "pawl on 0 at 1 teeth 7;", 7).same(), 4669);
         Check.due("same() of 29, 23, 19", Check.drumOf(many + "pawl on 0 at 1 teeth 19;", 7).same(), -1);
+        String near = "drum steps 60 jam 60 slack 0; track; nose on 0 at 3 wide 1 high 9 steep 9; knife on 0 spring 60 lag 0;";
+        Check.due("same() of 49, 12, 17", Check.drumOf(near + "pawl on 0 at 1 teeth 12; pawl on 0 at 9 teeth 17; gear 1 to 49;", 7).same(), 9996);
+        Check.due("same() of 15, 23, 29", Check.drumOf(many + "pawl on 0 at 1 teeth 15;", 7).same(), -1);
         NoseDrum x = Check.drumOf(many + "pawl on 0 at 1 teeth 19;", 7);
         x.breaks(0, true);
         Check.due("same() of a broken nose", x.same(), 1);

@@ -9,7 +9,9 @@ public final class TextTest {
         drumFaults1();
         drumFaults2();
         drumFaults3();
+        cutOff();
         motions();
+        mostActs();
         motionFaults();
         Check.finish();
     }
@@ -150,6 +152,17 @@ public final class TextTest {
         Check.drumFault(1, "^;");
         Check.drumFault(1, "^drumsteps 12 jam 5 slack 2;");
         Check.drumFault(1, "^Drum steps 12 jam 5 slack 2;");
+        Check.drumFault(1, "^crum steps 12 jam 5 slack 2;");
+        Check.drumFault(1, "^drumz steps 12 jam 5 slack 2;");
+        Check.drumFault(1, "^drua steps 12 jam 5 slack 2;");
+        Check.drumFault(1, "^dru steps 12 jam 5 slack 2;");
+        Check.drumFault(1, D + "^xrack;");
+        Check.drumFault(1, D + "^trackz;");
+        Check.drumFault(1, D + "^tracka;");
+        Check.drumFault(1, D + "track^`;");
+        Check.drumFault(1, D + "track^|;");
+        Check.drumFault(1, D + "gear 1^/");
+        Check.drumFault(1, D + "gear 1^:");
         Check.drumFault(1, "drum^#steps 12 jam 5 slack 2;");
         Check.drumFault(1, "drum^\tsteps 12 jam 5 slack 2;");
         Check.drumFault(1, "drum ^12 jam 5 slack 2;");
@@ -260,6 +273,34 @@ public final class TextTest {
         Check.drumFault(3, pawls + "^pawl on 0 at 1 teeth 2;");
     }
 
+    /** What was cut off the tape is not read, though it goes on with a word or a number. */
+    private static void cutOff() {
+        NoseDrum x = new NoseDrum();
+        Check.tell(x, D + "tracks");
+        x.end(D.length() + 5);
+        Check.due("drum()", x.drum(), -4);
+        Check.due("fault(1) behind a word", x.fault(1), D.length() + 5);
+        Check.tell(x, ";gear 1 to 12");
+        x.end(D.length() + 17);
+        Check.due("drum()", x.drum(), -4);
+        Check.due("fault(1) behind a number", x.fault(1), D.length() + 17);
+        Check.tell(x, ";  ");
+        x.end(D.length() + 18);
+        Check.due("drum()", x.drum(), 3);
+        x.turn(3);
+        Check.due("by gear 1 to 1", x.stands(4), 3);
+    }
+
+    /** As many acts as the tape has room for. */
+    private static void mostActs() {
+        NoseDrum x = Check.drumOf("drum steps 60 jam 5 slack 2;track;knife on 0 spring 1 lag 0;", 3);
+        Check.motionOf(x, "up0;".repeat(400), 59);
+        Check.motionOf(x, "times2{}".repeat(200), 0);
+        Check.motionOf(x, "times2{}".repeat(199) + "hold 3; ", 3);
+        Check.motionOf(x, "times2{".repeat(5) + "up1;".repeat(300) + "}".repeat(5), 59);
+        Check.due("the last step", x.rowAt(59), 59);
+    }
+
     private static void motions() {
         NoseDrum x = new NoseDrum();
         Check.tell(x, "up 1;");
@@ -308,6 +349,9 @@ public final class TextTest {
         Check.motionFault(x, 1, "up 5  ^");
         Check.motionFault(x, 1, "up 5 ^up 6;");
         Check.motionFault(x, 1, "^upp 5;");
+        Check.motionFault(x, 1, "^upz 5;");
+        Check.motionFault(x, 1, "^p 5;");
+        Check.motionFault(x, 1, "^zp 5;");
         Check.motionFault(x, 1, "down ^x;");
         Check.motionFault(x, 1, "hold ^{");
         Check.motionFault(x, 1, "times 2 ^up 1;");
