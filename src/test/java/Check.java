@@ -1,3 +1,5 @@
+import java.util.function.IntToLongFunction;
+
 /** What every test of the project uses: feeding texts, comparing answers, ending with the right code. */
 final class Check {
     private static int wrong = 0;
@@ -73,6 +75,21 @@ final class Check {
         for (int i = 0; i < numbers.length; i++) {
             due("write", x.write(slot, i, numbers[i]), 0);
         }
+    }
+
+    /** Of a number of a call the last ones that are taken and the first ones that are refused, on both sides. */
+    static void bounds(String call, IntToLongFunction ask, int least, int most, int refusal) {
+        due(call + " takes " + least, isTaken(ask.applyAsLong(least), refusal), 1);
+        due(call + " takes " + most, isTaken(ask.applyAsLong(most), refusal), 1);
+        due(call + " of " + (least - 1), ask.applyAsLong(least - 1), refusal);
+        due(call + " of " + (most + 1), ask.applyAsLong(most + 1), refusal);
+        due(call + " of the least int", ask.applyAsLong(Integer.MIN_VALUE), refusal);
+        due(call + " of the greatest int", ask.applyAsLong(Integer.MAX_VALUE), refusal);
+        due(call + " takes " + least + " again", isTaken(ask.applyAsLong(least), refusal), 1);
+    }
+
+    private static int isTaken(long answer, int refusal) {
+        return answer >= NoseDrum.NONE && answer != refusal ? 1 : 0;
     }
 
     static void finish() {

@@ -3,6 +3,7 @@ public final class RoomTest {
     public static void main(String[] args) {
         packed();
         lessThanGreedy();
+        placesAlone();
         clashes();
         wrong();
         Check.finish();
@@ -40,6 +41,20 @@ public final class RoomTest {
         placesDue(x, 0, 3, 0, 0, 0, 1, 2, 1);
         Check.numbers(x, 0, 0, 6, 6, 5, 5, 5, 4, 4, 5);
         placesDue(x, 0, 4, 0, 1, 2, 2, 3, 0, 1, 3);
+    }
+
+    /** place() answers for its own slot, whatever was asked of another one ahead of it, or nothing was. */
+    private static void placesAlone() {
+        NoseDrum x = Check.drumOf("drum steps 10 jam 5 slack 2;", 1);
+        Check.numbers(x, 0, 0, 4, 4, 5, 5, 6, 6);
+        Check.due("place(0, 5) first of all", x.place(0, 5), 1);
+        Check.numbers(x, 1, 1, 10, 10, 10, 10, 10, 10);
+        Check.due("fewest(1)", x.fewest(1), 6);
+        Check.due("place(0, 3) behind that", x.place(0, 3), 2);
+        Check.due("place(0, 4) behind that", x.place(0, 4), 0);
+        Check.due("clash(1)", x.clash(1), 6);
+        Check.due("place(1, 4) behind that", x.place(1, 4), 4);
+        Check.due("place(0, 0) behind that", x.place(0, 0), 0);
     }
 
     private static void clashes() {
