@@ -404,6 +404,11 @@ public final class RoundTest {
             Check.due("differs of a nose at " + at, x.differs(0), at == 3 ? -1 : Math.min(at, 3));
             Check.due("nearest", x.nearest(), 0);
         }
+        // Twice round in a turn: of two shifts the least.
+        NoseDrum twice = drum("steps 8 jam 9 slack 0", knife + "flat 0 on 0 spring 60 lag 0;", nose(1, 1, 5, 60), nose(5, 1, 5, 60));
+        Check.motionOf(twice, "hold 2;up 5;down 5;hold 2;up 5;", 7);
+        Check.due("phases 2 and 6", twice.phase(0), 2);
+        Check.due("nearest: the first of two that are as near", twice.nearest(), 0);
         // The row at the last step alone, and a knife at step 0.
         NoseDrum y = drum("steps 8 jam 9 slack 0", knife, nose(0, 1, 5, 60));
         Check.motionOf(y, "hold 6;up 5;", 7);

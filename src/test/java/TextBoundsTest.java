@@ -302,7 +302,19 @@ public final class TextBoundsTest {
         Check.drumFault(1, D + "track;^drum steps 12 jam 5 slack 2;");
         Check.drumFault(1, D + "^drum steps 99 jam 5 slack 2;");
         Check.drumFault(1, D + "^drum;");
+        // Of one place the least: what can't stand there is a fault 1, though it were told already or too often.
+        Check.drumFault(1, D + "gear 1 to 1;track ^gear 1 to 1;");
+        Check.drumFault(1, T + "gear 1 to 1;nose ^gear 1 to 1;");
+        Check.drumFault(1, D + "track;".repeat(6) + "gear 1 ^track;");
+        Check.drumFault(1, T + N.repeat(24) + "gear ^nose;");
+        Check.drumFault(1, K + "knife on 0 spring 1 lag 0;".repeat(8) + "gear 1 to ^knife;");
+        Check.drumFault(1, K + "pawl on 0 at 1 teeth 2;".repeat(4) + "track ^pawl;");
+        Check.drumFault(1, "drum steps 12 jam 5 slack 2 ^61;");
+        Check.drumFault(1, "^61 drum;");
         NoseDrum x = Check.drumOf(K, 5);
+        Check.motionFault(x, 1, "^61;");
+        Check.motionFault(x, 1, "times 2{".repeat(5) + "up 1 ^{");
+        Check.motionFault(x, 1, "times 2{".repeat(5) + "times ^{");
         Check.motionFault(x, 2, "up ^61; down 61; #");
         Check.motionFault(x, 1, "up ^# 61;");
         Check.motionFault(x, 2, "times 2{times 2{times 2{times 2{times 2{times ^1{");
@@ -586,6 +598,8 @@ public final class TextBoundsTest {
             Check.due("the last step", x.rowAt(steps - 1), steps - 1);
             Check.due("step 0 is not looked at again", x.rowAt(0), 0);
             Check.motionOf(x, "hold 60;", steps - 1);
+            Check.motionOf(x, "hold " + (steps - 1) + ";times 2 { up 1; } up 1;", steps - 1);
+            Check.due("behind the last step nothing is looked at", x.rowAt(steps - 1), 0);
             Check.motionOf(x, "up 2;hold 60;down 1;", steps - 1);
             Check.due("the last step", x.rowAt(steps - 1), 2);
             Check.motionOf(x, "times 60 { times 60 { times 60 { times 60 { times 60 { up 1; } } } } }", steps - 1);
