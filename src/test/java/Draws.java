@@ -4,6 +4,7 @@ import java.util.Comparator;
 import java.util.List;
 import java.util.Map;
 import java.util.Random;
+import java.util.function.IntUnaryOperator;
 
 /** Drums, motions and calls by draws, for the tests that try many of them. */
 final class Draws {
@@ -125,7 +126,8 @@ final class Draws {
         Map.entry("back", "k"), Map.entry("row", "lkR"), Map.entry("write", "lc."), Map.entry("paste", "lclcc"), Map.entry("end", "B"),
         Map.entry("stands", "w"), Map.entry("fault", "k"));
 
-    Object[] arguments(Method m, NoseDrum x) {
+    /** The counts say what there is: those of the object or of the model, if the object's calls are counted. */
+    Object[] arguments(Method m, IntUnaryOperator counts) {
         Class<?>[] kinds = m.getParameterTypes();
         String meaning = MEANING.getOrDefault(m.getName(), "......");
         Object[] arguments = new Object[kinds.length];
@@ -133,15 +135,15 @@ final class Draws {
             if (kinds[i] == boolean.class) {
                 arguments[i] = once(3);
             } else if (kinds[i] == long.class) {
-                arguments[i] = once(9) ? random.nextLong() : (long) upTo(Math.max(4, x.count(0)));
+                arguments[i] = once(9) ? random.nextLong() : (long) upTo(Math.max(4, counts.applyAsInt(0)));
             } else {
-                arguments[i] = number(meaning.charAt(i), x);
+                arguments[i] = number(meaning.charAt(i), counts);
             }
         }
         return arguments;
     }
 
-    private int number(char meaning, NoseDrum x) {
+    private int number(char meaning, IntUnaryOperator counts) {
         if (once(60)) {
             return random.nextInt();
         }
@@ -151,11 +153,11 @@ final class Draws {
         }
         int beyond = once(12) ? 0 : 1;
         return switch (meaning) {
-            case 't' -> upTo(Math.max(0, x.count(1) - beyond));
-            case 's' -> upTo(Math.max(0, x.count(0) - beyond));
-            case 'f' -> upTo(Math.max(0, x.count(3) - beyond));
-            case 'n' -> upTo(Math.max(0, x.count(2) - beyond));
-            case 'p' -> upTo(Math.max(0, x.count(4) - beyond));
+            case 't' -> upTo(Math.max(0, counts.applyAsInt(1) - beyond));
+            case 's' -> upTo(Math.max(0, counts.applyAsInt(0) - beyond));
+            case 'f' -> upTo(Math.max(0, counts.applyAsInt(3) - beyond));
+            case 'n' -> upTo(Math.max(0, counts.applyAsInt(2) - beyond));
+            case 'p' -> upTo(Math.max(0, counts.applyAsInt(4) - beyond));
             case 'l', 'k' -> upTo(4 - beyond);
             case 'w' -> upTo(6 - beyond);
             case 'o' -> upTo(3 - beyond);
@@ -167,7 +169,7 @@ final class Draws {
             case 'Y' -> once(2) ? from(1, 9) : from(1, 61);
             case 'O' -> once(2) ? upTo(9) : upTo(101);
             case 'R' -> once(9) ? from(-1, 61) : upTo(9);
-            case 'B' -> upTo(Math.max(0, x.count(6)));
+            case 'B' -> upTo(Math.max(0, counts.applyAsInt(6)));
             case 'c' -> upTo(once(3) ? 8 : 4);
             default -> upTo(12);
         };

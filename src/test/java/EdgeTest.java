@@ -37,7 +37,7 @@ public final class EdgeTest {
     }
 
     private static Object[] anyArguments(Draws draws, Method m, NoseDrum x) {
-        Object[] arguments = draws.arguments(m, x);
+        Object[] arguments = draws.arguments(m, x::count);
         for (int i = 0; i < arguments.length; i++) {
             if (arguments[i] instanceof Integer && draws.once(3)) {
                 arguments[i] = EDGES[draws.upTo(EDGES.length - 1)];

@@ -43,7 +43,7 @@ public final class ModelTest {
             } else {
                 Method m = FACE.get(draws.upTo(FACE.size() - 1));
                 if (!m.getName().equals("feed") && !m.getName().equals("drum") || draws.once(20)) {
-                    both(seed, x, y, m, draws.arguments(m, x));
+                    both(seed, x, y, m, draws.arguments(m, x::count));
                 }
             }
         }
