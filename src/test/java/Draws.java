@@ -5,12 +5,16 @@ import java.util.List;
 import java.util.Map;
 import java.util.Random;
 import java.util.function.IntUnaryOperator;
+import java.util.regex.Matcher;
+import java.util.regex.Pattern;
 
 /** Drums, motions and calls by draws, for the tests that try many of them. */
 final class Draws {
     private static final String[] SCRAPS = {"drum", "track", "nose", "knife", "roller", "flat", "lever", "pawl", "gear", "on", "at", "wide",
         "high", "steep", "spring", "lag", "over", "teeth", "to", "up", "down", "hold", "times", "if", "above", ";", "{", "}", " ", "\n", "0",
         "1", "61", "100", "1000", "99999999999", ".", "A", "\t", "\u00ff", "#", "x"};
+
+    private static final int[] EDGES = {0, 1, 2, 3, 4, 5, 6, 7, 8, 9, 10, 11, 12, 15, 16, 17, 19, 20, 21, 29, 30, 31, 59, 60, 61, 98, 99, 100, 998, 999, 1000};
 
     final Random random;
 
@@ -94,15 +98,17 @@ final class Draws {
         return text.toString();
     }
 
-    /** A text as it may be told wrong. */
+    /** A text as it may be told wrong; a number at an edge, or a line told often, may be right all the same. */
     String spoilt(String text) {
         StringBuilder s = new StringBuilder(text);
         for (int i = from(1, 2); i > 0; i--) {
             int at = upTo(s.length());
-            switch (upTo(3)) {
+            switch (upTo(6)) {
                 case 0 -> s.insert(at, SCRAPS[upTo(SCRAPS.length - 1)]);
                 case 1 -> s.delete(at, Math.min(s.length(), at + from(1, 4)));
                 case 2 -> s.setLength(at);
+                case 3, 4 -> otherNumber(s);
+                case 5 -> lineAgain(s);
                 default -> {
                     s.delete(at, Math.min(s.length(), at + 1));
                     s.insert(at, SCRAPS[upTo(SCRAPS.length - 1)]);
@@ -110,6 +116,26 @@ final class Draws {
             }
         }
         return s.length() > 1600 ? text : s.toString();
+    }
+
+    private void otherNumber(StringBuilder s) {
+        List<int[]> places = new ArrayList<>();
+        Matcher m = Pattern.compile("[0-9]+").matcher(s);
+        while (m.find()) {
+            places.add(new int[] {m.start(), m.end()});
+        }
+        if (!places.isEmpty()) {
+            int[] place = places.get(upTo(places.size() - 1));
+            s.replace(place[0], place[1], Integer.toString(EDGES[upTo(EDGES.length - 1)]));
+        }
+    }
+
+    /** As often as there may be such lines, or once more. */
+    private void lineAgain(StringBuilder s) {
+        int end = s.lastIndexOf(";") + 1;
+        int begin = Math.max(s.lastIndexOf(";", end - 2), s.lastIndexOf("}", end - 2)) + 1;
+        String line = once(3) ? "track;" : s.substring(Math.min(begin, end), end);
+        s.insert(end, line.repeat(once(2) ? 1 : from(2, 11)));
     }
 
     /**
@@ -146,6 +172,9 @@ final class Draws {
     private int number(char meaning, IntUnaryOperator counts) {
         if (once(60)) {
             return random.nextInt();
+        }
+        if (once(60)) {
+            return -1;
         }
         if (once(40)) {
             int[] edges = {Integer.MIN_VALUE, Integer.MAX_VALUE, -1, 60, 61, 99, 100, 600, 601, -600, -601, 2000000000, 2000000001, 9, 10};

@@ -109,7 +109,7 @@ final class Run {
         for (int i = 0; i < 9 && text.length() > 500; i++) {
             text = draws.drum();
         }
-        tell(draws.once(4) ? draws.spoilt(text) : text);
+        tell(draws.once(20) ? "" : draws.once(3) ? draws.spoilt(text) : text);
         call("drum");
         call("fault", 0);
         call("fault", 1);
@@ -120,7 +120,7 @@ final class Run {
         for (int i = 0; i < 9 && text.length() > 300; i++) {
             text = draws.motion(draws.upTo(3), model.count(3));
         }
-        tell(draws.once(4) ? draws.spoilt(text) : text);
+        tell(draws.once(3) ? draws.spoilt(text) : text);
         call("motion");
         call("fault", 0);
         call("fault", 1);
