@@ -1,6 +1,6 @@
 /**
- * Long runs of calls on one object, worked out by hand, in which calls of all promises follow each other: what one
- * call leaves is seen by the later ones.
+ * Long runs of calls on one object, worked out by hand: what one call leaves is seen by the later ones. In two of them
+ * calls of all promises follow each other.
  */
 public final class StoryTest {
     public static void main(String[] args) throws ReflectiveOperationException {
